@@ -47,7 +47,9 @@ public final class TextsTest {
             "bed 0 cold 1 nacre 1", "bed 0 nacre", "bed 0 nacre 1000", "bed 0 nacre 5 6", "bed 0 weighs 1",
             "comes", "comes 100", "comes 4294967296", "comes 5 5", "comes in 5", "5", "in 5", "nacre",
             "oyster oyster", "oyster;;oyster", "bed 0;comes 1;#", "comes 1#", "oyster in 0\u00e9",
-            "oysterin 0", "oyster weighs 5layers", "oyster weighs 5layers 4weighs", "\nbed 0"};
+            "oysterin 0", "oyster weighs 5layers", "oyster weighs 5layers 4weighs", "\nbed 0",
+            "oysterz", "oystera", "bed 0/", "bed 0:", "bed 9", "oyster`", "oyster{", "oyster :", "bed 0 nacrex 5",
+            "oyster weighs 5 4", "comes 5;;", "comes 5 oyster", "comes ;", "bed ; bed 0", "bed 0 cold ;"};
         int[] faults = {0, 3, 0, 7, 9, 9, 10, 7,
             14, 13, 14, 16,
             16, 12, 0, 0, 0, 6, 6,
@@ -55,7 +57,9 @@ public final class TextsTest {
             13, 11, 12, 14, 6,
             5, 6, 6, 8, 6, 0, 0, 0,
             7, 7, 14, 7, 11,
-            0, 21, 23, 0};
+            0, 21, 23, 0,
+            0, 0, 5, 5, 4, 6, 6, 7, 6,
+            16, 8, 8, 6, 4, 11};
         for (int i = 0; i < texts.length; i++) {
             reads(texts[i], -1 - faults[i]);
             Due.due("34: nothing changes by \"" + texts[i] + "\"", fresh.count(1), 0);

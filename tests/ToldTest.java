@@ -39,6 +39,29 @@ public final class ToldTest {
         Due.due("27: not told by then", x.weighed(3, 0), 8);
     }
 
+    // One after the other is told and leaves the 1 that comes to the next, so that it comes to oyster 3 in year 15:
+    // by then each weight but 99 is told, in the warm water.
+    private static void theHeaviest() {
+        OysterSecrets x = new OysterSecrets();
+        x.bed(0, 0, 0);
+        x.bed(0, 1, 0);
+        x.comes(1);
+        int[] weights = {49, 91, 98, 1};
+        for (int i = 0; i < 4; i++) {
+            x.oyster(0, 0);
+            x.change(i, 2, weights[i]);
+        }
+        int[] layers = new int[16];
+        layers[15] = 1;
+        Due.sheet(x, 0, layers);
+        Due.due("26: 99 alone", x.fits(0, 3), 1);
+        Due.due("27: 99 alone", x.weighed(0, 3), 99);
+        layers[15] = 0;
+        Due.sheet(x, 0, layers);
+        Due.due("26: all but 99", x.fits(0, 3), 98);
+        Due.due("27: all but 99", x.weighed(0, 3), 1);
+    }
+
     private static void kinds() {
         OysterSecrets x = new OysterSecrets();
         x.oyster(4, 0);
@@ -86,6 +109,7 @@ public final class ToldTest {
     public static void main(String[] args) {
         weights();
         toldOnes();
+        theHeaviest();
         kinds();
         wrong();
         Due.end();

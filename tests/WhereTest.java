@@ -95,6 +95,19 @@ public final class WhereTest {
         Due.due("19: comesFor(2, 1)", x.comesFor(2, 1), Due.BEYOND);
         Due.due("19: comesFor(-1, 1)", x.comesFor(-1, 1), Due.BEYOND);
         Due.due("19: nothing changes", x.comes(0), 20);
+        OysterSecrets last = new OysterSecrets();
+        last.bed(0, 0, 0);
+        for (int i = 0; i < 3; i++) {
+            last.oyster(6, 0);
+            last.change(i, 2, 99);
+        }
+        last.oyster(5, 0);
+        last.change(3, 2, 15);
+        last.change(3, 4, 40);
+        last.change(3, 3, 1);
+        Due.due("19: three take 30 each, 9 are left", last.comesFor(3, 2), 99);
+        last.change(3, 3, 0);
+        Due.due("19: 10 are not", last.comesFor(3, 2), Due.NONE);
     }
 
     private static void coldFor() {

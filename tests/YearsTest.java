@@ -126,6 +126,9 @@ public final class YearsTest {
             x.go(60);
         }
         Due.due("9: go(40)", x.go(40), Due.STATE);
+        x.image();
+        Due.due("9: go(39)", x.go(39), 0);
+        Due.due("9: the last year", x.undo(), 99960);
         Due.due("9: go(61)", x.go(61), Due.BEYOND);
         Due.due("9: go(38)", x.go(38), 0);
         Due.due("29: storms(2)", x.storms(2), Due.STATE);

@@ -1104,28 +1104,36 @@ public final class OysterSecrets {
         }
     }
 
-    /** The tape's bytes, and where reading them as a text stands: always at one token. */
+    /** The tape's bytes, their tokens, and where reading them as a text stands: always at one token. */
     private static final class Tape {
-        private static final int END = 0;
-        private static final int WORD = 1;
-        private static final int NUMBER = 2;
-        private static final int SIGN = 3;
-        private static final int NO_TOKEN = 4;
+        // The sorts of tokens; the words of the kinds are told by the numbers of the kinds.
+        private static final int BED = 7;
+        private static final int COMES = 8;
+        private static final int IN = 9;
+        private static final int WEIGHS = 10;
+        private static final int LAYERS = 11;
+        private static final int NACRE = 12;
+        private static final int COLD = 13;
+        private static final int WORDS = 14;
+        private static final int NUMBER = 14;
+        private static final int SIGN = 15;
+        private static final int END = 16;
+        private static final int NO_TOKEN = 17;
 
         final int[] bytes = new int[TAPE_BYTES];
+        // No token is shorter than a byte, and the end is one, too.
+        final int[] sorts = new int[TAPE_BYTES + 1];
+        final int[] starts = new int[TAPE_BYTES + 1];
+        final int[] numbers = new int[TAPE_BYTES + 1];
         int size;
-        int sort;
-        int start;
-        int behind;
-        int number;
+        int tokens;
+        int at;
         int value;
 
         Tape() {
             size = 0;
-            sort = END;
-            start = 0;
-            behind = 0;
-            number = 0;
+            tokens = 0;
+            at = 0;
             value = 0;
         }
 
@@ -1138,46 +1146,42 @@ public final class OysterSecrets {
 
         /** How many items there were; or -1 less the fault, with the estuary half changed. */
         int readInto(Estuary estuary) {
-            behind = 0;
-            // No item is shorter than a byte, so there are no more turns than bytes.
-            for (int items = 1; items <= TAPE_BYTES; items++) {
-                nextToken();
+            splitIntoTokens();
+            int items = 0;
+            boolean goesOn = true;
+            while (goesOn && items < TAPE_BYTES) {
                 if (!readItem(estuary)) {
-                    return -1 - start;
+                    return -1 - starts[at];
                 }
-                if (sort == END) {
-                    return items;
-                }
-                if (sort != SIGN) {
-                    return -1 - start;
-                }
+                items++;
+                goesOn = sorts[at] == SIGN;
+                passIf(SIGN);
             }
-            return -1 - size;
+            return sorts[at] == END ? items : -1 - starts[at];
         }
 
         // Whatever is answered with false here stands at the token that can't stand there.
         boolean readItem(Estuary estuary) {
-            if (isWord("bed")) {
+            if (passIf(BED)) {
                 return readBed(estuary);
             }
-            if (isWord("comes")) {
+            if (passIf(COMES)) {
                 return readComes(estuary);
             }
-            int kind = kindOfWord();
-            return kind >= 0 && !estuary.isFull() && readOyster(estuary, kind);
+            int kind = sorts[at];
+            return isKind(kind) && !estuary.isFull() && passIf(kind) && readOyster(estuary, kind);
         }
 
         boolean readOyster(Estuary estuary, int kind) {
-            nextToken();
-            if (!readAfter("in", BEDS - 1, 0)) {
+            if (!readAfter(IN, BEDS - 1, 0)) {
                 return false;
             }
             int oyster = estuary.addOyster(kind, value);
-            if (oyster < 0 || !readAfter("weighs", MOST_WEIGHT, estuary.weight[oyster])) {
+            if (oyster < 0 || !readAfter(WEIGHS, MOST_WEIGHT, estuary.weight[oyster])) {
                 return false;
             }
             estuary.weight[oyster] = value;
-            if (!readAfter("layers", MOST_LAYERS, estuary.layers[oyster])) {
+            if (!readAfter(LAYERS, MOST_LAYERS, estuary.layers[oyster])) {
                 return false;
             }
             estuary.layers[oyster] = value;
@@ -1185,16 +1189,15 @@ public final class OysterSecrets {
         }
 
         boolean readBed(Estuary estuary) {
-            nextToken();
             if (!readNumber(BEDS - 1)) {
                 return false;
             }
             int bed = value;
-            if (!readAfter("nacre", MOST_NACRE, estuary.nacre[bed])) {
+            if (!readAfter(NACRE, MOST_NACRE, estuary.nacre[bed])) {
                 return false;
             }
             estuary.nacre[bed] = value;
-            if (!readAfter("cold", MOST_COLD, estuary.cold[bed])) {
+            if (!readAfter(COLD, MOST_COLD, estuary.cold[bed])) {
                 return false;
             }
             estuary.cold[bed] = value;
@@ -1202,7 +1205,6 @@ public final class OysterSecrets {
         }
 
         boolean readComes(Estuary estuary) {
-            nextToken();
             if (!readNumber(MOST_COMES)) {
                 return false;
             }
@@ -1210,82 +1212,98 @@ public final class OysterSecrets {
             return true;
         }
 
-        boolean readAfter(String word, int most, int without) {
+        boolean readAfter(int word, int most, int without) {
             value = without;
-            if (!isWord(word)) {
-                return true;
-            }
-            nextToken();
-            return readNumber(most);
+            return !passIf(word) || readNumber(most);
         }
 
         boolean readNumber(int most) {
-            if (sort != NUMBER || number > most) {
+            value = numbers[at];
+            return value <= most && passIf(NUMBER);
+        }
+
+        // The end is never passed, so there is always a token to stand at.
+        boolean passIf(int sort) {
+            if (at >= tokens || sorts[at] != sort) {
                 return false;
             }
-            value = number;
-            nextToken();
+            at++;
             return true;
         }
 
-        void nextToken() {
-            start = behind;
-            while (start < size && bytes[start] == ' ') {
-                start++;
+        void splitIntoTokens() {
+            at = 0;
+            tokens = 0;
+            int place = 0;
+            while (place < size) {
+                int end = endOfToken(place);
+                if (bytes[place] != ' ') {
+                    starts[tokens] = place;
+                    sorts[tokens] = sortOf(place, end);
+                    numbers[tokens] = numberOf(place, end);
+                    tokens++;
+                }
+                place = end;
             }
-            behind = start;
-            if (start >= size) {
-                sort = END;
-            } else if (isLetter(bytes[start])) {
-                sort = WORD;
-                passWord();
-            } else if (isDigit(bytes[start])) {
-                sort = NUMBER;
-                passNumber();
-            } else {
-                sort = bytes[start] == ';' ? SIGN : NO_TOKEN;
-                behind++;
-            }
+            starts[tokens] = size;
+            sorts[tokens] = END;
+            numbers[tokens] = 0;
         }
 
-        void passWord() {
-            while (behind < size && isLetter(bytes[behind])) {
-                behind++;
+        int endOfToken(int start) {
+            int end = start + 1;
+            if (isLetter(bytes[start])) {
+                while (end < size && isLetter(bytes[end])) {
+                    end++;
+                }
+            } else if (isDigit(bytes[start])) {
+                while (end < size && isDigit(bytes[end])) {
+                    end++;
+                }
             }
+            return end;
+        }
+
+        int sortOf(int start, int end) {
+            if (isDigit(bytes[start])) {
+                return NUMBER;
+            }
+            if (bytes[start] == ';') {
+                return SIGN;
+            }
+            for (int word = 0; word < WORDS; word++) {
+                if (isText(textOf(word), start, end)) {
+                    return word;
+                }
+            }
+            return NO_TOKEN;
         }
 
         // A number of many digits stays at one that is too great anywhere.
-        void passNumber() {
-            number = 0;
-            while (behind < size && isDigit(bytes[behind])) {
-                number = Math.min(1000, number * 10 + bytes[behind] - '0');
-                behind++;
+        int numberOf(int start, int end) {
+            int number = 0;
+            for (int i = start; i < end && isDigit(bytes[i]); i++) {
+                number = Math.min(1000, number * 10 + bytes[i] - '0');
             }
+            return number;
         }
 
-        int kindOfWord() {
-            for (int k = 0; k < KINDS; k++) {
-                if (isWord(wordOfKind(k))) {
-                    return k;
-                }
-            }
-            return -1;
-        }
-
-        boolean isWord(String word) {
-            if (sort != WORD || behind - start != word.length()) {
+        boolean isText(String text, int start, int end) {
+            if (end - start != text.length()) {
                 return false;
             }
-            for (int i = 0; i < word.length(); i++) {
-                if (bytes[start + i] != word.charAt(i)) {
+            for (int i = 0; i < text.length(); i++) {
+                if (bytes[start + i] != text.charAt(i)) {
                     return false;
                 }
             }
             return true;
         }
 
-        static String wordOfKind(int kind) {
-            switch (kind) {
+        static String textOf(int word) {
+            switch (word) {
+                case OYSTER:
+                    return "oyster";
                 case BLACK:
                     return "black";
                 case SEED:
@@ -1298,8 +1316,20 @@ public final class OysterSecrets {
                     return "dear";
                 case MINISTER:
                     return "minister";
+                case BED:
+                    return "bed";
+                case COMES:
+                    return "comes";
+                case IN:
+                    return "in";
+                case WEIGHS:
+                    return "weighs";
+                case LAYERS:
+                    return "layers";
+                case NACRE:
+                    return "nacre";
                 default:
-                    return "oyster";
+                    return "cold";
             }
         }
 
