@@ -128,6 +128,13 @@ public final class TextsTest {
         reads(text.toString(), 24);
         reads(text + ";", -1 - 120);
         reads(text + "#", -1 - 119);
+        reads(";".repeat(120), -1);
+        reads("a1".repeat(60), -1);
+        reads("bed0" + ";".repeat(116), -1 - 5);
+        reads(" ".repeat(120), -1 - 120);
+        reads(" ".repeat(114) + "oyster", 1);
+        reads("comes " + "0".repeat(114), 1);
+        reads("comes " + "9".repeat(114), -1 - 6);
     }
 
     public static void main(String[] args) {
