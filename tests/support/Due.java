@@ -27,8 +27,13 @@ final class Due {
 
     /** Feeds all bytes of a text (of at most 120). */
     static void feed(OysterSecrets x, String text) {
-        for (int i = 0; i < text.length(); i++) {
-            x.feed(text.charAt(i), 1);
+        for (int i = 0; i < text.length(); i += 4) {
+            int n = Math.min(4, text.length() - i);
+            int bytes = 0;
+            for (int k = i; k < i + n; k++) {
+                bytes = bytes << 8 | text.charAt(k);
+            }
+            x.feed(bytes, n);
         }
     }
 
