@@ -192,6 +192,27 @@ public final class EdgeFindingsTest {
         Due.due("Terms: one of three to take up, the least of them", two.room(3, 1, 1), 1);
     }
 
+    /** "An object is used for at most 512 calls after it has been made": the 512th answers as the first does */
+    private static void the512thCall() {
+        OysterSecrets years = new OysterSecrets();
+        for (int i = 1; i < 512; i++) {
+            years.go(1);
+        }
+        Due.due("the 512th call: YEAR", years.count(0), 511);
+        OysterSecrets findings = new OysterSecrets();
+        for (int i = 1; i < 512; i++) {
+            findings.status(7 + i);
+        }
+        Due.due("the 512th call: findings", findings.status(-1), 511);
+        OysterSecrets dear = Edge.full();
+        for (int i = 0; i < 500; i += 2) {
+            dear.room(7, 999, 20);
+            dear.go(1);
+        }
+        Due.due("one of the last calls: layers of a dear oyster", dear.of(5, 3), 999);
+        Due.due("one of the last calls: FULL", dear.oyster(0, 0), Due.FULL);
+    }
+
     public static void main(String[] args) {
         theirNumbers();
         inLongs();
@@ -203,6 +224,7 @@ public final class EdgeFindingsTest {
         quotients();
         sets();
         theLeastNumber();
+        the512thCall();
         Due.end();
     }
 }
