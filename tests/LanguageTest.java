@@ -5,7 +5,7 @@ import java.nio.file.Path;
 import java.util.regex.Matcher;
 import java.util.regex.Pattern;
 
-/** Of LANGUAGE.md what can be seen by the words of the source: rules 2, 3, 5, 6, 11 and 13, and the library of rule 4. */
+/** Of LANGUAGE.md what can be seen by the words of the source: rules 2, 3, 5, 6, 9, 11 and 13, and the library of rule 4. */
 public final class LanguageTest {
     private static final String[] BARRED = {
         "\\bimport\\b", "\\bpackage\\b", "\\bthrow\\b", "\\bthrows\\b", "\\btry\\b", "\\bcatch\\b", "\\bfinally\\b",
@@ -50,6 +50,36 @@ public final class LanguageTest {
         }
     }
 
+    /** Rule 9: a loop steps, in its head or between its own braces, something on which its end depends. */
+    private static void loopEnds(String bare) {
+        String[] lines = bare.split("\n");
+        for (int i = 0; i < lines.length; i++) {
+            Matcher head = Pattern.compile("^( *)(for|while) \\((.*)\\) \\{$").matcher(lines[i]);
+            if (!head.find()) {
+                continue;
+            }
+            boolean isFor = head.group(2).equals("for");
+            String[] parts = head.group(3).split(";");
+            StringBuilder steps = new StringBuilder(isFor ? parts[2] : "");
+            for (int k = i + 1; !isFor && k < lines.length && !lines[k].equals(head.group(1) + "}"); k++) {
+                steps.append(lines[k]).append('\n');
+            }
+            if (!isStepped(isFor ? parts[1] : head.group(3), steps.toString())) {
+                Due.fault("the end of the loop of line " + (i + 1) + " can't be seen: " + lines[i].trim());
+            }
+        }
+    }
+
+    private static boolean isStepped(String condition, String steps) {
+        Matcher name = Pattern.compile("[a-z]\\w*").matcher(condition);
+        while (name.find()) {
+            if (Pattern.compile("\\b" + name.group() + "(\\+\\+|--| \\+= | /= )").matcher(steps).find()) {
+                return true;
+            }
+        }
+        return false;
+    }
+
     public static void main(String[] args) throws IOException {
         Path path = Path.of(System.getProperty("oyster.source", "src/main/java/OysterSecrets.java"));
         String source = Files.readString(path, StandardCharsets.UTF_8);
@@ -67,6 +97,7 @@ public final class LanguageTest {
         }
         library(bare);
         methodLengths(source);
+        loopEnds(bare);
         Due.end();
     }
 }

@@ -1234,34 +1234,39 @@ public final class OysterSecrets {
         void splitIntoTokens() {
             at = 0;
             tokens = 0;
-            int place = 0;
-            while (place < size) {
-                int end = endOfToken(place);
-                if (bytes[place] != ' ') {
-                    starts[tokens] = place;
-                    sorts[tokens] = sortOf(place, end);
-                    numbers[tokens] = numberOf(place, end);
-                    tokens++;
+            for (int place = 0; place < size; place++) {
+                if (bytes[place] != ' ' && !isTogether(place)) {
+                    addToken(place, endOfToken(place));
                 }
-                place = end;
             }
             starts[tokens] = size;
             sorts[tokens] = END;
             numbers[tokens] = 0;
         }
 
+        void addToken(int start, int end) {
+            starts[tokens] = start;
+            sorts[tokens] = sortOf(start, end);
+            numbers[tokens] = numberOf(start, end);
+            tokens++;
+        }
+
         int endOfToken(int start) {
             int end = start + 1;
-            if (isLetter(bytes[start])) {
-                while (end < size && isLetter(bytes[end])) {
-                    end++;
-                }
-            } else if (isDigit(bytes[start])) {
-                while (end < size && isDigit(bytes[end])) {
-                    end++;
-                }
+            while (end < size && isTogether(end)) {
+                end++;
             }
             return end;
+        }
+
+        /** Whether the byte at a place belongs to the token of the one ahead of it. */
+        boolean isTogether(int place) {
+            if (place < 1 || place >= size) {
+                return false;
+            }
+            int before = bytes[place - 1];
+            int here = bytes[place];
+            return (isLetter(before) && isLetter(here)) || (isDigit(before) && isDigit(here));
         }
 
         int sortOf(int start, int end) {
